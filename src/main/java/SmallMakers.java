@@ -714,6 +714,8 @@ public final class SmallMakers {
     /** THINGS, their MEASURES and what is KNOWN of them. */
     private static final class Things {
         private static final int UNMEASURED = -1001, QUARREL = -1002;
+        /** Further off than any MEASURE can tell. */
+        private static final int BEYOND = 9999;
 
         private int n;
         private int allMeasures;
@@ -779,7 +781,7 @@ public final class SmallMakers {
         }
 
         private int leastOf(int thing, int which) {
-            int least = Integer.MIN_VALUE;
+            int least = -BEYOND;
             for (int i = 0; i < MEASURES; i++) {
                 if ((which >> i & 1) != 0) least = Math.max(least, number[thing][i] - error[thing][i]);
             }
@@ -787,7 +789,7 @@ public final class SmallMakers {
         }
 
         private int greatestOf(int thing, int which) {
-            int greatest = Integer.MAX_VALUE;
+            int greatest = BEYOND;
             for (int i = 0; i < MEASURES; i++) {
                 if ((which >> i & 1) != 0) greatest = Math.min(greatest, number[thing][i] + error[thing][i]);
             }

@@ -2,6 +2,7 @@
 public final class ModelTest {
     private static final int RUNS = 400;
     private static final int CALLS = 512;
+    private static final int PAIR_RUNS = 120;
     private final Due due = new Due();
     private long seed;
     private SmallMakers x;
@@ -11,6 +12,7 @@ public final class ModelTest {
     public static void main(String[] args) {
         ModelTest t = new ModelTest();
         for (int run = 0; run < RUNS; run++) t.run(run);
+        for (int run = 0; run < PAIR_RUNS; run++) t.pairsOfMany(run);
         t.due.end();
     }
 
@@ -42,6 +44,29 @@ public final class ModelTest {
 
     private void same(long want, long got, String call) {
         due.is(want, got, call);
+    }
+
+    /** Many things that fit few others, so that what one is given turns many. */
+    private void pairsOfMany(int number) {
+        seed = number * 104729L + 5;
+        x = new SmallMakers();
+        m = new Model();
+        due.about("pairs run " + number);
+        int few = 6 + below(7), wide = 4 + below(30), error = below(6);
+        for (int i = 0; i < 24; i++) {
+            int p = m.things.stream().filter(t -> t.part == 1).count() < few && below(2) == 0 ? 1 : 0;
+            same(m.thing(p, 0), x.thing(p, 0), "thing(" + p + ", 0)");
+            int v = 100 + below(wide), e = below(error + 1);
+            same(m.measure(i, v, e), x.measure(i, v, e), "measure(" + i + ", " + v + ", " + e + ")");
+        }
+        for (int i = 0; i < 8; i++) {
+            int p = below(2), a = -1 - below(wide), b = a + below(wide);
+            for (int w = 9; w < 34; w++) {
+                int what = w == 9 ? 0 : w;
+                same(m.pairs(p, 1 - p, a, b, what), x.pairs(p, 1 - p, a, b, what),
+                    "pairs(" + p + ", " + (1 - p) + ", " + a + ", " + b + ", " + what + ")");
+            }
+        }
     }
 
     private void call() {
