@@ -154,10 +154,10 @@ public final class ToldTest {
         Method[] calls = SmallMakers.class.getDeclaredMethods();
         java.util.Arrays.sort(calls, (a, b) -> a.getName().compareTo(b.getName()));
         java.util.Random r = new java.util.Random(5);
-        for (int run = 0; run < 300; run++) {
+        for (int run = 0; run < 400; run++) {
             SmallMakers x = new SmallMakers();
             if (run % 2 == 0) fill(x);
-            for (int i = 0; i < 200; i++) {
+            for (int i = 0; i < 150; i++) {      // with both digests fewer than the 512 calls that are promised
                 Method m = calls[r.nextInt(calls.length)];
                 if (Modifier.isPrivate(m.getModifiers())) continue;
                 Object[] with = new Object[m.getParameterCount()];
