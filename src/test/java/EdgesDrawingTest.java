@@ -100,9 +100,28 @@ public final class EdgesDrawingTest {
     private static void nothingShared() {
         Run first = at("1: SmallMakers(): As told at first, whatever was done with another one");
         long empty = first.call("digest()");
-        new Run(due).filled();
+        Run filled = new Run(due).filled();
         first.is("digest()", empty);
         new Run(due).is("digest()", empty);
+        due.about("1: SmallMakers(): nothing that is done with one changes another one");
+        long full = filled.call("digest()");
+        otherwiseFilled(new Run(due));
+        filled.is("digest()", full).is("in(3, 1)", 0).is("count(8)", 2).is("known(0, 0)", 138).is("of(0, 3)", 39).is("blamed()", 16);
+        filled.is("given(0, 0)", -1).is("foretold(1, 100)", 9).is("drift(1, 0)", 2).is("enough(0)", -1).is("fault()", 5).is("blank()", 5);
+        otherwiseFilled(first);
+        Run last = new Run(due).is("digest()", empty);
+        otherwiseFilled(last);
+        due.is(first.call("digest()"), last.call("digest()"), "digest() of two with the same calls");
+    }
+
+    /** In each place where Run.filled has something, something else. */
+    private static void otherwiseFilled(Run r) {
+        r.chain("-h+g-f=-150~0", 0).writes("-xyz~{}", 7).is("part(1, 0, 5)", 0).is("part(1, 1, 7)", 100).is("part(1, 2, 3)", 0);
+        r.is("counted(1, -4, 9)", 0).is("counted(1, 3, 8)", 0).is("grade(2, 0, 77)", 2).is("grade(2, 1, 7)", 4);
+        r.thing(0, 4, 9, 20, 1, 90, 1).thing(1, 4, 8, 5, 0).thing(2, 4, 7).is("put(3, 1)", -1).is("put(0, 2)", -1).is("told(3, 2)", 0);
+        r.is("told(5, 1)", 0).is("hours(1, 2)", 8).is("offer(1, 6, 99, 9)", 0).is("offer(0, 0, 1, 1)", 0).is("late(1, 29)", 1).is("late(1, 28)", 2);
+        r.is("order(1, 50)", 0).is("order(3, 51)", 1).is("look(900)", 0).is("look(901)", 1).is("finds(1, 2, 11)", 0).is("finds(0, 3, 99)", 0);
+        r.is("asked(3, 99)", 0).is("made(90)", 1).is("made(91)", 2).is("made(0)", 3).is("giveOut(1, 0)", 1).is("given(-1, 0)", -1);
     }
 
     // ---- promise 2

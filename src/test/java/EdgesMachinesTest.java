@@ -234,6 +234,21 @@ public final class EdgesMachinesTest {
             into(r, m, 3 * m + 2, 2, 0, 7 - m, 0);
         }
         swapIs("23: the least PART (of b and c, as a change of a sets nothing right)", r, 1, 0, 1);
+        swapLeastPart();
+    }
+
+    /** PART a's of MACHINES 4 and 5, b's of MACHINES 0 and 1: c is as the one of them that stays. */
+    private static void swapLeastPart() {
+        Run r = new Run(due).chain("+a-c=0~0", 0).chain("+b-c=0~0", 1);
+        int[] machine = {0, 1, 4, 5}, a = {1, 2, 4, 3}, b = {2, 1, 3, 4}, c = {1, 2, 3, 4};
+        for (int i = 0; i < 4; i++) {
+            into(r, machine[i], 3 * i, 0, 0, a[i], 0);
+            into(r, machine[i], 3 * i + 1, 1, 0, b[i], 0);
+            into(r, machine[i], 3 * i + 2, 2, 0, c[i], 0);
+        }
+        swapIs("23: the least PART (ahead of the least MACHINE)", r, 0, 4, 5);
+        r.is("put(2, 6)", -1);
+        swapIs("23: the least PART (b: a is in MACHINE 4 no more)", r, 1, 0, 1);
     }
 
     private static void swapStays() {

@@ -237,6 +237,12 @@ public final class EdgesThingsTest {
         r.thing(0, 0, 0, 102, 0).thing(1, 0, 0, 101, 0).thing(2, 0, 0, 103, 0);
         r.thing(3, 1, 0, 102, 0).thing(4, 1, 0, 100, 0).thing(5, 1, 0, 101, 0).thing(6, 1, 0, 103, 0);
         partnersAre(r, 3, 3, 4, 6);
+        r = at("18: MOST PAIRS; the least partner (not 4, which is the second's only one; not 6, though the fourth FITS 5, too)");
+        r.thing(0, 0, 0, 100, 0).thing(1, 0, 0, 100, 1).thing(2, 0, 0, 105, 1).thing(3, 0, 0, 103, 1);
+        r.thing(4, 1, 0, 100, 0).thing(5, 1, 0, 102, 0).thing(6, 1, 0, 98, 0).thing(7, 1, 0, 104, 0).thing(8, 1, 0, 106, 0);
+        int[] partner = {5, 4, 8, 7};
+        r.is("pairs(0, 1, -2, 2, 0)", 4);
+        for (int i = 0; i < 4; i++) r.is("pairs(0, 1, -2, 2, " + (10 + i) + ")", partner[i]);
     }
 
     /** Within 0, 1: how many pairs, then the partner of each THING. */
